@@ -47,7 +47,7 @@ public final class PathProber {
     private final Odds odds = new Odds();
     private final Sight sight = new Sight(told, now);
     private final Walk walk = new Walk(told, now);
-    private final Sender sender = new Sender(told, now, walk, sight, odds);
+    private final Sender sender = new Sender(told, now, walk, odds);
     private final Notebook notebook = new Notebook(told, walk);
     private final History history = new History();
     private final int[] status = new int[STATUSES];
@@ -161,7 +161,7 @@ public final class PathProber {
         mustBeGoal(goal);
         mustBeHops(h);
         switch (what) {
-            case 0: return sight.addressesAt(goal, h);
+            case 0: return now.seenAt(goal, h);
             case 1: return now.sentAt(goal, h);
             case 2: return sight.edgesAt(goal, h);
             case 3: return told.placesAt(goal, h);
@@ -173,7 +173,7 @@ public final class PathProber {
     public long sure(int goal, int h) throws NoSuchElementException {
         mustBeGoal(goal);
         mustBeHops(h);
-        int met = Integer.bitCount(sight.addressesAt(goal, h));
+        int met = Integer.bitCount(now.seenAt(goal, h));
         return met == 0 ? Odds.WHOLE : odds.missed(now.sentAt(goal, h), met + 1);
     }
 
@@ -494,7 +494,7 @@ public final class PathProber {
     }
 
     private int hiddenAt(int goal, int h) {
-        return told.placesAt(goal, h) & ~sight.addressesAt(goal, h);
+        return told.placesAt(goal, h) & ~now.seenAt(goal, h);
     }
 
     private int hiddenInAll(int goal) {
@@ -1047,6 +1047,16 @@ public final class PathProber {
             return (int) (all >>> (SEEN_BITS * (h - 1)) & SEEN_MASK) - 1;
         }
 
+        /** What any port has seen (bits). Sweeps ask it for every probe, so the shift is worked out once. */
+        int seenAt(int goal, int h) {
+            int shift = SEEN_BITS * (h - 1);
+            int bits = 0;
+            for (int port = 0; port < PORTS; port++) {
+                bits |= 1 << (int) (seen[goal * PORTS + port] >>> shift & SEEN_MASK);
+            }
+            return bits >>> 1;
+        }
+
         void see(int port, int goal, int h, int address) {
             int shift = SEEN_BITS * (h - 1);
             long others = seen[goal * PORTS + port] & ~((long) SEEN_MASK << shift);
@@ -1167,26 +1177,15 @@ public final class PathProber {
             this.now = now;
         }
 
-        int addressesAt(int goal, int h) {
-            int bits = 0;
-            for (int port = 0; port < PORTS; port++) {
-                int address = now.seenBy(port, goal, h);
-                if (address != NONE) {
-                    bits |= 1 << address;
-                }
-            }
-            return bits;
-        }
-
         private int widthAt(int goal, int h) {
-            return Integer.bitCount(addressesAt(goal, h));
+            return Integer.bitCount(now.seenAt(goal, h));
         }
 
         int addressesEverywhere() {
             int bits = 0;
             for (int goal = 0; goal < net.goals; goal++) {
                 for (int h = 1; h <= HOPS_MOST; h++) {
-                    bits |= addressesAt(goal, h);
+                    bits |= now.seenAt(goal, h);
                 }
             }
             return bits;
@@ -1263,7 +1262,7 @@ public final class PathProber {
         }
 
         private int skewAt(int goal, int h) {
-            int addresses = addressesAt(goal, h);
+            int addresses = now.seenAt(goal, h);
             drawEdges(goal, h);
             int greatest = 0;
             int least = ADDRESSES_MOST;
@@ -1396,15 +1395,13 @@ public final class PathProber {
         private final Net net;
         private final Condition now;
         private final Walk walk;
-        private final Sight sight;
         private final Odds odds;
         int seed = 0;
 
-        Sender(Net net, Condition now, Walk walk, Sight sight, Odds odds) {
+        Sender(Net net, Condition now, Walk walk, Odds odds) {
             this.net = net;
             this.now = now;
             this.walk = walk;
-            this.sight = sight;
             this.odds = odds;
         }
 
@@ -1471,7 +1468,7 @@ public final class PathProber {
         }
 
         private int enoughAt(int goal, int h) {
-            int addresses = Integer.bitCount(sight.addressesAt(goal, h));
+            int addresses = Integer.bitCount(now.seenAt(goal, h));
             int k = Math.max(1, Math.min(ENOUGH_MOST, addresses));
             int enough = odds.enoughFor(k, now.loss);
             return enough == NONE ? PORTS : enough;
@@ -1591,7 +1588,7 @@ public final class PathProber {
             bestPort = NONE;
             bestUnlike = 0;
             long fitting = fitting(router);
-            for (int aPort = 0; aPort < PORTS; aPort++) {
+            for (int aPort = 0; aPort < PORTS && fitting != 0L; aPort++) {
                 int unlike = unlikeBy(fitting, router, aPort, aGoal);
                 if (unlike > bestUnlike) {
                     bestUnlike = unlike;

@@ -517,6 +517,20 @@ public final class PromisesTest {
         z.ping(1);
         // 120, 240, then 180 is 196 more MOD 256.
         due("too much more", () -> z.twins(0, 1), 0);
+        PathProber v = of("router one 0 10; router one 0 9; link 0 1; to 1;");
+        v.probe(0, 0, 1);
+        v.probe(0, 0, 2);
+        v.ping(1);
+        v.image();
+        // 20, 27, 30, 36, 40, 45: told to be one, though they aren't; by the other first it is 27, then 20.
+        due("told to be twins", () -> v.twins(0, 1), 1);
+        due("three pings each", () -> v.router(0, 5) * 1000 + v.router(1, 5), 40045);
+        v.restore();
+        due("by the other first", () -> v.twins(1, 0), 0);
+        PathProber u = of("router flow 0 1; router one 0 1; router one 0 1; link 0 1; link 0 2; link 1 2; to 2;");
+        u.trace(0, 0);
+        u.trace(1, 0);
+        due("each 1 more", () -> u.twins(2, 3), 1);
         PathProber w = of("router one 0 1; router one 0 60 mute; router packet 0 3; router packet 0 7; link 0 1; link 1 2; link 1 3; to 2; to 3;");
         w.trace(0, 0);
         due("a mute one is not seen", () -> w.ping(1), -1);
