@@ -17,7 +17,9 @@ import java.util.regex.Pattern;
 public final class NaiveRunsTest {
     private static final long ILLEGAL = Long.MIN_VALUE;
     private static final long NO_SUCH = Long.MIN_VALUE + 1;
-    private static final int RUNS = 700;
+    private static final int RUNS = 2500;
+    /** The document promises nothing of an object behind its 512th call. */
+    private static final int CALLS_OF_ONE = 512;
     private static int wrong = 0;
     private static long calls = 0;
     private static final Set<String> met = new TreeSet<>();
@@ -60,6 +62,7 @@ public final class NaiveRunsTest {
         final PathProber real = new PathProber();
         final Naive naive = new Naive();
         final List<String> trail = new ArrayList<>();
+        int mine = 0;
 
         Run(int seed) {
             this.seed = seed;
@@ -67,6 +70,10 @@ public final class NaiveRunsTest {
         }
 
         boolean same(String call, LongSupplier got, LongSupplier want) {
+            if (mine >= CALLS_OF_ONE) {
+                return true;
+            }
+            mine++;
             calls++;
             long g = answer(got);
             long w = answer(want);
@@ -96,6 +103,13 @@ public final class NaiveRunsTest {
             lookAtAll();
         }
 
+        /** There are more questions than calls, so of those to all things only some are asked. */
+        void perhaps(String call, LongSupplier got, LongSupplier want) {
+            if (random.nextInt(6) == 0) {
+                same(call, got, want);
+            }
+        }
+
         void step() {
             int r = random.nextInt(100);
             if (r < 22) {
@@ -123,6 +137,7 @@ public final class NaiveRunsTest {
             } else if (r < 74) {
                 noteSome();
             } else if (r < 75) {
+                mine++;
                 real.forget();
                 naive.notes.clear();
                 trail.add("forget");
@@ -130,6 +145,7 @@ public final class NaiveRunsTest {
                 int s = random.nextInt(), n = random.nextInt(44) - 2, w = random.nextInt(5) - 1;
                 same("years " + s + " " + n + " " + w, () -> real.years(s, n, w), () -> naive.years(s, n, w));
             } else if (r < 83) {
+                mine++;
                 real.image();
                 naive.image();
                 trail.add("image");
@@ -216,16 +232,16 @@ public final class NaiveRunsTest {
         void lookAtAll() {
             for (int i = -1; i <= 21; i++) {
                 int what = i;
-                same("count " + what, () -> real.count(what), () -> naive.count(what));
+                perhaps("count " + what, () -> real.count(what), () -> naive.count(what));
             }
             for (int i = 0; i < naive.routers.size(); i++) {
                 int r = i;
                 for (int j = 0; j <= 7; j++) {
                     int what = j;
-                    same("router " + r + " " + what, () -> real.router(r, what), () -> naive.router(r, what));
+                    perhaps("router " + r + " " + what, () -> real.router(r, what), () -> naive.router(r, what));
                 }
-                same("fits " + r, () -> real.fits(r, 0), () -> naive.fits(r, 0));
-                same("fits first " + r, () -> real.fits(r, 1), () -> naive.fits(r, 1));
+                perhaps("fits " + r, () -> real.fits(r, 0), () -> naive.fits(r, 0));
+                perhaps("fits first " + r, () -> real.fits(r, 1), () -> naive.fits(r, 1));
             }
             for (int i = 0; i < naive.goals.size(); i++) {
                 lookAtGoal(i);
@@ -237,35 +253,35 @@ public final class NaiveRunsTest {
                 int h = i;
                 for (int j = 0; j <= 4; j++) {
                     int what = j;
-                    same("hop " + g + " " + h + " " + what, () -> real.hop(g, h, what), () -> naive.hop(g, h, what));
+                    perhaps("hop " + g + " " + h + " " + what, () -> real.hop(g, h, what), () -> naive.hop(g, h, what));
                 }
-                same("sure " + g + " " + h, () -> real.sure(g, h), () -> naive.sure(g, h));
+                perhaps("sure " + g + " " + h, () -> real.sure(g, h), () -> naive.sure(g, h));
             }
             for (int i = 0; i < 32; i++) {
                 int p = i;
-                same("loop " + p + " " + g, () -> real.loop(p, g, 0), () -> naive.loop(p, g, 0));
-                same("why " + p + " " + g, () -> real.loop(p, g, 1), () -> naive.loop(p, g, 1));
+                perhaps("loop " + p + " " + g, () -> real.loop(p, g, 0), () -> naive.loop(p, g, 0));
+                perhaps("why " + p + " " + g, () -> real.loop(p, g, 1), () -> naive.loop(p, g, 1));
             }
             for (int i = -1; i < 6; i++) {
                 int d = i;
                 for (int j = 0; j <= 3; j++) {
                     int what = j;
-                    same("diamond " + g + " " + d + " " + what, () -> real.diamond(g, d, what), () -> naive.diamond(g, d, what));
+                    perhaps("diamond " + g + " " + d + " " + what, () -> real.diamond(g, d, what), () -> naive.diamond(g, d, what));
                 }
             }
             for (int i = 0; i <= 3; i++) {
                 int what = i;
-                same("truth " + g + " " + what, () -> real.truth(g, what), () -> naive.truth(g, what));
+                perhaps("truth " + g + " " + what, () -> real.truth(g, what), () -> naive.truth(g, what));
             }
             for (int i = 0; i < naive.links.size(); i++) {
                 int l = i;
-                same("port " + g + " " + l, () -> real.port(g, l), () -> naive.port(g, l));
-                same("use " + g + " " + l, () -> real.use(g, l), () -> naive.use(g, l));
+                perhaps("port " + g + " " + l, () -> real.port(g, l), () -> naive.port(g, l));
+                perhaps("use " + g + " " + l, () -> real.use(g, l), () -> naive.use(g, l));
             }
-            same("cover " + g, () -> real.cover(g), () -> naive.cover(g));
+            perhaps("cover " + g, () -> real.cover(g), () -> naive.cover(g));
             int r = random.nextInt(Math.max(1, naive.routers.size()));
-            same("look " + r + " " + g, () -> real.look(r, g, 0), () -> naive.look(r, g, 0));
-            same("look unlike " + r + " " + g, () -> real.look(r, g, 1), () -> naive.look(r, g, 1));
+            perhaps("look " + r + " " + g, () -> real.look(r, g, 0), () -> naive.look(r, g, 0));
+            perhaps("look unlike " + r + " " + g, () -> real.look(r, g, 1), () -> naive.look(r, g, 1));
         }
     }
 

@@ -1,15 +1,5 @@
-import java.nio.charset.StandardCharsets;
-import java.util.NoSuchElementException;
-import java.util.function.LongSupplier;
-
 /** Each promise with answers that were worked out by hand from the document. */
-public final class PromisesTest {
-    private static final long ILLEGAL = Long.MIN_VALUE;
-    private static final long NO_SUCH = Long.MIN_VALUE + 1;
-    private static final long WHOLE = 1000000000000L;
-    private static int wrong = 0;
-    private static int checks = 0;
-
+public final class PromisesTest extends Due {
     /** 0 - 1 < (2, 3) > 4 - 5, shared out by flow at 1: an even port goes by 2. */
     private static final String FORK = "router one 0 7; router flow 0 9; router one 0 5; router one 0 3; router one 0 11;"
             + " router one 0 2; link 0 1; link 1 2; link 1 3; link 2 4; link 3 4; link 4 5; to 5;";
@@ -42,44 +32,7 @@ public final class PromisesTest {
         years();
         images();
         farArguments();
-        System.out.println(checks + " checks, " + wrong + " wrong");
-        if (wrong != 0) {
-            System.exit(1);
-        }
-    }
-
-    private static void due(String what, LongSupplier call, long want) {
-        checks++;
-        long got;
-        try {
-            got = call.getAsLong();
-        } catch (NoSuchElementException e) {
-            got = NO_SUCH;
-        } catch (IllegalArgumentException e) {
-            got = ILLEGAL;
-        }
-        if (got != want) {
-            wrong++;
-            System.out.println(what + " answered " + got + ", due is " + want);
-        }
-    }
-
-    private static void lay(PathProber x, String text) {
-        byte[] bytes = text.getBytes(StandardCharsets.ISO_8859_1);
-        for (int at = 0; at < bytes.length; at += 20) {
-            int[] n = new int[5];
-            for (int i = 0; i < 20; i++) {
-                n[i / 4] = n[i / 4] << 8 | (at + i < bytes.length ? bytes[at + i] & 255 : 32);
-            }
-            x.feed(n[0], n[1], n[2], n[3], n[4]);
-        }
-    }
-
-    private static PathProber of(String text) {
-        PathProber x = new PathProber();
-        lay(x, text);
-        due("net of " + text, () -> x.net(text.length()), 0);
-        return x;
+        end();
     }
 
     private static void newObject() {
@@ -139,13 +92,6 @@ public final class PromisesTest {
         due("counter anew", () -> x.router(0, 5), 0);
         due("empty text", () -> x.net(0), 0);
         due("no routers", () -> x.count(0), 0);
-    }
-
-    private static void text(String text, int code, int place) {
-        PathProber x = new PathProber();
-        lay(x, text);
-        due("text " + text, () -> x.net(text.length()), code);
-        due("place in " + text, x::fault, place);
     }
 
     private static void texts() {
