@@ -29,6 +29,9 @@ public final class ProbeEdgesTest extends Due {
         seenIsTheLast();
         sentCountsAll();
         edges();
+        edgesOfTheHighestAddress();
+        everyGoalAndPort();
+        undoneAreMuteAndLostToo();
         windows();
         enoughIsLessThan();
         missing();
@@ -302,6 +305,68 @@ public final class ProbeEdgesTest extends Due {
         due("not at 8", () -> y.hop(0, 8, 2), 0);
         y.probe(0, 0, 6);
         due("not over a gap", () -> y.hop(0, 6, 2) + y.hop(0, 7, 2), 0);
+        y.probe(0, 0, 1);
+        y.probe(0, 0, 2);
+        due("from address 0", () -> y.hop(0, 1, 2), 1);
+        due("from address 0, asked", () -> y.edge(0, 1, 0, 1), 1);
+    }
+
+    /** Twelve routers, twenty links, the last of which is the only one from router 0: by address 20 lies all else. */
+    private static void edgesOfTheHighestAddress() {
+        StringBuilder text = new StringBuilder(ONE + "router flow 0 1;" + ONE.repeat(10));
+        for (int from = 1; from <= 4; from++) {
+            for (int to = from + 1; to <= from + 4; to++) {
+                text.append("link ").append(from).append(' ').append(to).append(';');
+            }
+        }
+        PathProber x = of(text + "link 8 9;link 9 10;link 10 11;link 0 1;to 11;");
+        due("twenty links", () -> x.count(1), 20);
+        due("its place", () -> x.hop(0, 2, 3), 1 << 20);
+        // Router 5 leads nowhere, so three of the four links from router 1 are branches.
+        due("the places behind it", () -> x.hop(0, 3, 3), 0b1110);
+        for (int port = 0; port < 4; port++) {
+            x.trace(port, 0);
+        }
+        due("an edge to it", () -> x.edge(0, 1, 0, 20), 1);
+        due("an edge from it", () -> x.edge(0, 2, 20, 3), 1);
+        due("all from it", () -> x.hop(0, 2, 2), 3);
+        due("a diamond begins there", () -> x.diamond(0, 0, 0), 2);
+        due("no loop", () -> x.loop(0, 0, 0), NONE);
+    }
+
+    private static void everyGoalAndPort() {
+        PathProber x = of("router one 0 1;router one 0 1;router one 0 1;" + row(0, 2) + "to 0;to 1;to 2;");
+        x.probe(31, 1, 10);
+        x.probe(31, 2, 10);
+        x.probe(31, 0, 10);
+        due("sent to all goals", () -> x.count(9), 3);
+        due("seen by the last port of each", () -> x.seen(31, 0, 10) * 100 + x.seen(31, 1, 10) * 10 + x.seen(31, 2, 10), 12);
+        due("all forgotten", x::clear, 3);
+        due("seen of goal 1", () -> x.seen(31, 1, 10), NONE);
+        due("seen of goal 2", () -> x.seen(31, 2, 10), NONE);
+        due("sent to goal 2", () -> x.hop(2, 10, 1), 0);
+        x.undo();
+        due("seen again", () -> x.seen(31, 0, 10) * 100 + x.seen(31, 1, 10) * 10 + x.seen(31, 2, 10), 12);
+        due("sent again", () -> x.hop(2, 10, 1) + x.hop(1, 10, 1), 2);
+        x.undo();
+        x.undo();
+        due("not to goal 2 yet", () -> x.seen(31, 2, 10), NONE);
+        due("but to goal 1", () -> x.seen(31, 1, 10), 1);
+        due("one sent", () -> x.count(9), 1);
+    }
+
+    private static void undoneAreMuteAndLostToo() {
+        PathProber x = of(ONE + MUTE + ONE + ONE + row(0, 2) + "to 2;to 3;");
+        x.probe(0, 0, 2);
+        x.probe(0, 1, 2);
+        x.image();
+        due("one mute, one lost", () -> x.count(19) * 10 + x.count(20), 11);
+        x.undo();
+        due("the lost one is undone", () -> x.count(19) * 10 + x.count(20), 10);
+        x.undo();
+        due("the mute one is undone", () -> x.count(19) * 10 + x.count(20), 0);
+        x.restore();
+        due("as in the image", () -> x.count(19) * 10 + x.count(20), 11);
     }
 
     private static void windows() {

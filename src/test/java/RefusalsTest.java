@@ -26,6 +26,7 @@ public final class RefusalsTest extends Due {
         netAtItsEdges();
         netThatFails();
         netThatSucceeds();
+        netsBehindOneAnother();
         faultPlace();
         counts();
         routersAndLinks();
@@ -218,6 +219,29 @@ public final class RefusalsTest extends Due {
         due("3: nothing seen", () -> x.seen(0, 0, 1), NONE);
         due("3: nothing noted", () -> x.fits(1, 0), 48);
         due("3: nothing sent", () -> x.hop(0, 1, 1), 0);
+        due("3: the same way", () -> x.probe(1, 0, 3), 3);
+    }
+
+    private static void netsBehindOneAnother() {
+        PathProber x = of("router flow 0 1;router one 0 9 mute;" + ONE.repeat(2) + "link 0 1;link 0 2;link 1 3;link 2 3;to 3;");
+        x.probe(0, 0, 2);
+        due("3: one was mute", () -> x.count(19), 1);
+        String behind = "router flow 0 1;" + ONE.repeat(3) + "link 1 2;link 0 3;to 3;to 1;";
+        lay(x, behind);
+        due("3: another net", () -> x.net(behind.length()), 0);
+        due("3: none was mute", () -> x.count(19), 0);
+        due("3: its own branches", () -> x.probe(0, 0, 2) * 10 + x.probe(1, 0, 2), 22);
+        due("3: its own manners", () -> x.router(1, 3), 0);
+        due("3: lost by it", () -> x.probe(0, 1, 2), NONE);
+        due("3: one was lost", () -> x.count(20), 1);
+        due("3: its own ways", () -> x.truth(0, 0) * 10 + x.truth(1, 0), 10);
+        lay(x, ONE + "to 0;");
+        due("3: a third net", () -> x.net(20), 0);
+        due("3: none was lost", () -> x.count(20), 0);
+        due("3: no more links", () -> x.link(0, 0), NO_SUCH);
+        due("3: nor goals", () -> x.cover(1), NO_SUCH);
+        due("3: nor links from it", () -> x.router(0, 6), 0);
+        due("3: one way", () -> x.truth(0, 0), 1);
     }
 
     private static void faultPlace() {

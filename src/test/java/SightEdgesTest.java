@@ -25,12 +25,14 @@ public final class SightEdgesTest extends Due {
         sure();
         notedAreAtMostEight();
         fits();
+        askingChangesNothing();
         fitsByTurnsAsTheyAre();
         lookNext();
         years();
         yearsOfForty();
         status();
         imageKeeps();
+        imageKeepsWhatIsNoted();
         imageOfForty();
         end();
     }
@@ -233,6 +235,22 @@ public final class SightEdgesTest extends Due {
         first.probe(0, 0, 3);
         first.probe(0, 0, 4);
         due("a late one with a link to it comes first", () -> first.loop(0, 0, 0) * 10 + first.loop(0, 0, 1), 31);
+        PathProber second = of(ONE + "router packet 0 1;" + ONE.repeat(4) + "link 0 1;link 1 3;link 1 2;link 2 3;link 3 4;link 4 5;to 5;");
+        second.probe(0, 0, 4);
+        second.probe(0, 0, 5);
+        due("a second router by packet", () -> second.loop(0, 0, 0) * 10 + second.loop(0, 0, 1), 42);
+        StringBuilder full = new StringBuilder("router packet 0 1;" + ONE.repeat(10) + LATE
+                + "link 0 2;link 0 1;link 1 2;link 2 3;link 3 4;link 4 5;");
+        for (int from = 5; from <= 7; from++) {
+            for (int to = from + 1; to <= from + 4; to++) {
+                full.append("link ").append(from).append(' ').append(to).append(';');
+            }
+        }
+        PathProber twenty = of(full + "link 8 9;link 8 10;to 10;");
+        due("twenty links, twelve routers", () -> twenty.count(1) * 100 + twenty.count(0), 2012);
+        twenty.probe(0, 0, 3);
+        twenty.probe(0, 0, 4);
+        due("no late one has a link", () -> twenty.loop(0, 0, 0) * 10 + twenty.loop(0, 0, 1), 32);
     }
 
     private static void waysInTruth() {
@@ -253,6 +271,12 @@ public final class SightEdgesTest extends Due {
         due("two ways", () -> cut.truth(0, 0), 2);
         due("the longest", () -> cut.truth(0, 1), 12);
         due("the shortest", () -> cut.truth(0, 2), 2);
+        due("the longest, asked first", () -> of(chain(3) + "to 2;").truth(0, 1), 3);
+        due("the shortest, asked first", () -> of(chain(3) + "to 2;").truth(0, 2), 3);
+        PathProber two = of(chain(4) + "link 0 3;to 3;to 2;");
+        due("of one goal", () -> two.truth(0, 2), 2);
+        due("then of another", () -> two.truth(1, 2), 3);
+        due("and of the first again", () -> two.truth(0, 1), 4);
         // From each router one goes on by one or by two.
         PathProber many = of(ONE.repeat(12) + "link 0 1;link 0 2;link 1 2;link 1 3;link 2 3;link 2 4;link 3 4;link 3 5;link 4 5;"
                 + "link 4 6;link 5 6;link 5 7;link 6 7;link 6 8;link 7 8;link 7 9;link 8 9;link 8 10;link 9 10;link 9 11;to 10;");
@@ -407,6 +431,32 @@ public final class SightEdgesTest extends Due {
         due("a late one sends on", () -> late.fits(0, 0), 48);
         late.note(0, 0, 1, 0);
         due("so it isn't itself", () -> late.fits(0, 0), 0);
+        PathProber end = of(chain(3) + ONE + "to 2;to 1;to 0;");
+        end.note(0, 0, 3, 2);
+        end.note(3, 1, 9, 1);
+        end.note(31, 2, 10, 0);
+        due("of the goal's, which has no branches", () -> end.fits(2, 0), 48);
+        due("of one that no way leads to", () -> end.fits(3, 0), 48);
+        due("by goals", () -> end.fits(0, 0), 48);
+        end.note(31, 2, 10, 1);
+        due("each note by its goal", () -> end.fits(0, 0), 0);
+    }
+
+    private static void askingChangesNothing() {
+        PathProber x = of(FORK);
+        x.note(0, 0, 3, 3);
+        due("fits", () -> x.fits(1, 1), 17);
+        due("the router goes on as it did", () -> x.probe(0, 0, 3) * 10 + x.probe(1, 0, 3), 23);
+        // Odd salts by flow and by goal: at port 1 these go unlike ways.
+        due("look", () -> x.look(1, 0, 0) * 10 + x.look(1, 0, 1), 12);
+        due("as it did", () -> x.probe(0, 0, 3) * 10 + x.probe(1, 0, 3), 23);
+        x.forget();
+        due("look at both", () -> x.look(1, 0, 1), 2);
+        due("port, use", () -> x.port(0, 1) * 100 + x.use(0, 1), 16);
+        due("cover", () -> x.cover(0), 2);
+        PathProber y = of("router flow 0 1;router flow 0 1;" + ONE.repeat(4) + "link 0 1;link 0 2;link 1 3;link 1 4;link 2 5;link 3 5;link 4 5;to 5;");
+        due("of another router", () -> y.look(1, 0, 1) + y.fits(1, 0), 50);
+        due("router 0 as it did", () -> y.probe(0, 0, 2) * 10 + y.probe(1, 0, 2), 12);
     }
 
     private static void fitsByTurnsAsTheyAre() {
@@ -604,6 +654,28 @@ public final class SightEdgesTest extends Due {
         due("the loss ahead", () -> x.count(3), 5);
         due("undo again", x::undo, 0);
         due("nothing was sent then", () -> x.count(9), 0);
+    }
+
+    private static void imageKeepsWhatIsNoted() {
+        PathProber x = of(FORK.replace("to 5;", "to 5;to 4;"));
+        x.note(1, 1, 3, 3);
+        x.note(2, 1, 3, 2);
+        int many = x.fits(1, 0);
+        int first = x.fits(1, 1);
+        // By flow 20 and an odd salt is odd, 27 and an odd salt is even; by goal both are alike.
+        due("eight by flow", () -> many, 8);
+        due("the first of an odd salt", () -> first, 17);
+        x.image();
+        x.forget();
+        x.note(0, 0, 10, 6);
+        x.note(5, 1, 10, 5);
+        x.note(5, 0, 2, 1);
+        // By flow 35 and 13 and an odd salt is odd, by goal 13 and an even one.
+        due("others", () -> x.fits(1, 0), 16);
+        x.restore();
+        due("two again", () -> x.count(11), 2);
+        due("as they were", () -> x.fits(1, 0), many);
+        due("the first again", () -> x.fits(1, 1), first);
     }
 
     private static void imageOfForty() {
